@@ -204,6 +204,9 @@ final class ListTests {
     dueTracks(x, 0, 1);
     x.setLimit(0, 299);
     dueTracks(x, 0, 3);
+    x.setOrder(0, 's');
+    dueTracks(x, 0, 2);
+    x.setOrder(0, 'r');
     // The tracks 3 and 0 are too much behind the track 1, the track 2 is not.
     x.setLimit(0, 400);
     dueTracks(x, 0, 1, 2);
@@ -388,10 +391,14 @@ final class ListTests {
     x.setRating(2, 0);
     Check.due(3, x.touched());
     // A list that loses a track and takes another one has another set of the same size.
-    x.setLimit(0, 300);
+    x.setLimit(0, 200);
     Check.due(1, x.touched());
+    dueTracks(x, 0, 0);
     x.setOrder(0, 's');
     Check.due(1, x.touched());
+    dueTracks(x, 0, 2);
+    x.setOrder(0, 's');
+    Check.due(0, x.touched());
   }
 
   private static void touchedByEach() {

@@ -117,7 +117,6 @@ final class ModelTests {
     Random random = new Random(run);
     Smartcrate crate = new Smartcrate();
     PlainModel plain = new PlainModel();
-    // Some runs seldom tag any more behind the building, so that much can be undone.
     int building = 100 + random.nextInt(150);
     // Some runs ask for what is out of range more often than others.
     int wild = 5 + random.nextInt(60);
@@ -127,7 +126,7 @@ final class ModelTests {
       String kinds = ARGUMENTS.get(face.get(chosen).getName());
       int[] arguments = new int[kinds.length()];
       for (int i = 0; i < arguments.length; i++) {
-        arguments[i] = argument(random, kinds.charAt(i), wild);
+        arguments[i] = argument(random, plain, kinds.charAt(i), wild);
       }
       String got = Answers.to(crate, face.get(chosen), arguments);
       String due = Answers.to(plain, model.get(chosen), arguments);
@@ -140,8 +139,17 @@ final class ModelTests {
     return true;
   }
 
+  /** Mostly a number that was given, seldom the next one, and often one of the first or last. */
+  private static int number(Random random, int given, int odd) {
+    if (given == 0 || odd == 1) {
+      return given;
+    }
+    int near = random.nextInt(Math.min(given, 5));
+    return odd % 4 == 2 ? near : odd % 4 == 3 ? given - 1 - near : random.nextInt(given);
+  }
+
   /** An argument of a kind, mostly in its range and sometimes at its ends or outside. */
-  private static int argument(Random random, char kind, int wild) {
+  private static int argument(Random random, PlainModel plain, char kind, int wild) {
     int odd = random.nextInt(wild);
     if (odd == 0) {
       int[] outside = {-1, Integer.MIN_VALUE, Integer.MAX_VALUE, 24, 16, 40, 8, 6, 1000, 10000, 0};
@@ -160,14 +168,8 @@ final class ModelTests {
         return odd < 4 ? 999 : random.nextInt(odd % 2 == 0 ? 4 : 900);
       case 'M':
         return odd % 3 == 0 ? 0 : odd == 1 ? 9999 : random.nextInt(odd % 3 == 1 ? 10 : 1200);
-      case 't':
-        return random.nextInt(24);
-      case 'g':
-        return random.nextInt(odd % 2 == 0 ? 5 : 16);
-      case 'r':
-        return random.nextInt(odd % 2 == 0 ? 10 : 40);
-      case 'l':
-        return random.nextInt(8);
+      case 't': case 'g': case 'r': case 'l':
+        return number(random, plain.given(kind), odd);
       case 'k':
         return random.nextInt(odd % 2 == 0 ? 3 : 24);
       case 'i':

@@ -55,6 +55,20 @@ final class PlainModel {
   private long seconds = 0;
   private int touched = 0;
 
+  /** How many numbers of a kind have been given: 't' tracks, 'g' tags, 'r' rules, 'l' lists. */
+  int given(char kind) {
+    switch (kind) {
+      case 't':
+        return songsAdded;
+      case 'g':
+        return names.size();
+      case 'r':
+        return rules.size();
+      default:
+        return lists.size();
+    }
+  }
+
   // What is there, and what is refused
 
   private Song song(int track) {
