@@ -10,6 +10,11 @@ public final class AllTests {
     TagTests.run();
     RuleTests.run();
     ListTests.run();
+    TrackEdgeTests.run();
+    TagEdgeTests.run();
+    RuleEdgeTests.run();
+    ListEdgeTests.run();
+    FigureEdgeTests.run();
     ModelTests.run();
     if (!Check.close()) {
       System.exit(1);

@@ -17,6 +17,24 @@ final class Answers {
           "matches", "size", "trackAt", "contains", "containsByRounds", "secondsOf", "common",
           "dependsOn", "touched", "mixes", "seconds", "listedShare", "meanLength");
 
+  /** The questions about all numbers that there can be, and one beyond. */
+  static final List<Asking> ALL = all();
+
+  /** One call of a method with its arguments. */
+  static final class Asking {
+    private final Method method;
+    private final int[] arguments;
+
+    Asking(Method method, int... arguments) {
+      this.method = method;
+      this.arguments = arguments;
+    }
+
+    String answerOf(Smartcrate crate) {
+      return method.getName() + Arrays.toString(arguments) + " " + to(crate, method, arguments);
+    }
+  }
+
   private Answers() {}
 
   static List<Method> methodsOf(Class<?> type) {
@@ -50,20 +68,26 @@ final class Answers {
     }
   }
 
-  /** The answers to all questions about all numbers that there can be, and one beyond. */
   static String of(Smartcrate crate) {
     StringBuilder all = new StringBuilder();
+    for (Asking asking : ALL) {
+      all.append(asking.answerOf(crate)).append('\n');
+    }
+    return all.toString();
+  }
+
+  private static List<Asking> all() {
+    List<Asking> all = new ArrayList<>();
     for (Method method : methodsOf(Smartcrate.class)) {
       if (QUESTIONS.contains(method.getName())) {
         int[] ends = endsOf(method.getName());
         int[] arguments = new int[ends.length];
         do {
-          all.append(method.getName()).append(Arrays.toString(arguments)).append(' ');
-          all.append(to(crate, method, arguments)).append('\n');
+          all.add(new Asking(method, arguments.clone()));
         } while (step(arguments, ends));
       }
     }
-    return all.toString();
+    return all;
   }
 
   private static boolean step(int[] arguments, int[] ends) {

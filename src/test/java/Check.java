@@ -1,3 +1,5 @@
+import java.util.List;
+
 /** What all tests use: named tests, answers that are due, and calls that must be refused. */
 final class Check {
   interface Body {
@@ -40,15 +42,32 @@ final class Check {
   /** The call must throw exactly this exception and change nothing that can be asked for. */
   static void refused(Smartcrate crate, Class<? extends RuntimeException> type, Call call) {
     String before = Answers.of(crate);
+    thrown(type, call);
+    if (!before.equals(Answers.of(crate))) {
+      fail("changed something and threw" + at());
+    }
+  }
+
+  /** Tells whether the call throws exactly this exception, as it must. */
+  static boolean thrown(Class<? extends RuntimeException> type, Call call) {
     try {
       fail("answered " + call.run() + ", due is " + type.getSimpleName() + at());
+      return false;
     } catch (RuntimeException e) {
       if (e.getClass() != type) {
         fail("threw " + e + ", due is " + type.getSimpleName() + at());
       }
+      return e.getClass() == type;
     }
-    if (!before.equals(Answers.of(crate))) {
-      fail("changed something and threw" + at());
+  }
+
+  /** What is told behind a refused call must be what was told ahead of it. */
+  static void sameLines(List<String> ahead, List<String> behind) {
+    for (int i = 0; i < ahead.size(); i++) {
+      if (!ahead.get(i).equals(behind.get(i))) {
+        fail("changed something: " + ahead.get(i) + " became " + behind.get(i) + at());
+        return;
+      }
     }
   }
 
@@ -64,9 +83,10 @@ final class Check {
   }
 
   /** The line of the test that asks, so that a wrong answer can be found. */
-  private static String at() {
+  static String at() {
     for (StackTraceElement frame : new Throwable().getStackTrace()) {
-      if (!frame.getClassName().equals("Check")) {
+      String in = frame.getClassName();
+      if (!in.equals("Check") && !in.startsWith("Scene")) {
         return " at " + frame.getFileName() + ":" + frame.getLineNumber();
       }
     }
