@@ -85,6 +85,7 @@ final class FaceTests {
     Check.test("the face's class and constructor", FaceTests::classAndConstructor);
     Check.test("static fields are final", FaceTests::staticFields);
     Check.test("private names", FaceTests::privateNames);
+    Check.test("sizes", FaceTests::sizes);
     Check.test("the language", () -> language(source));
   }
 
@@ -137,6 +138,24 @@ final class FaceTests {
       (Modifier.isPublic(method.getModifiers()) ? open : hidden).add(method.getName());
     }
     Check.due(true, Collections.disjoint(open, hidden));
+  }
+
+  /** At most seven parameters, some twelve classes, and some twenty fields beside constants. */
+  private static void sizes() {
+    List<Class<?>> classes = new ArrayList<>();
+    classes.add(Smartcrate.class);
+    classes.addAll(Arrays.asList(Smartcrate.class.getDeclaredClasses()));
+    Check.due(true, classes.size() <= 12);
+    for (Class<?> type : classes) {
+      for (Method method : type.getDeclaredMethods()) {
+        Check.due(true, method.getParameterCount() <= 7);
+      }
+      int fields = 0;
+      for (Field field : type.getDeclaredFields()) {
+        fields += Modifier.isStatic(field.getModifiers()) ? 0 : 1;
+      }
+      Check.due(true, fields <= 20);
+    }
   }
 
   private static void language(String source) {

@@ -4,6 +4,8 @@ import java.util.HashMap;
 import java.util.List;
 import java.util.Map;
 import java.util.Random;
+import java.util.Set;
+import java.util.TreeSet;
 
 /** Many runs of calls, each answer compared with that of the plain model; always the same runs. */
 final class ModelTests {
@@ -13,8 +15,14 @@ final class ModelTests {
   /** What each method's arguments are: see argument(). */
   private static final Map<String, String> ARGUMENTS = new HashMap<>();
 
-  /** How often each method is called, first in the part that builds, then behind it. */
+  /**
+   * How often each method is called, first in the part that builds, then behind it, and behind it
+   * in the runs in which tracks are played often and years pass.
+   */
   private static final Map<String, int[]> WEIGHTS = new HashMap<>();
+
+  /** What the answers that were due have been: the methods' names, and what they threw. */
+  private static final Set<String> MET = new TreeSet<>();
 
   static {
     put("addTrack", "LR", 12, 3);
@@ -74,12 +82,14 @@ final class ModelTests {
 
   private static void put(String name, String arguments, int building, int behind) {
     ARGUMENTS.put(name, arguments);
-    WEIGHTS.put(name, new int[] {building, behind});
+    int wearing = name.equals("play") ? 100 : name.equals("pass") ? 20 : 1;
+    WEIGHTS.put(name, new int[] {building, behind, wearing});
   }
 
   static void run() {
     Check.test("the model has the face's methods", ModelTests::sameMethods);
     Check.test("all promises: runs compared with the model", ModelTests::compareRuns);
+    Check.test("the runs meet every answer and exception", ModelTests::meetEverything);
   }
 
   private static void sameMethods() {
@@ -94,11 +104,30 @@ final class ModelTests {
   private static void compareRuns() {
     List<Method> face = Answers.methodsOf(Smartcrate.class);
     List<Method> model = Answers.methodsOf(PlainModel.class);
-    List<List<Integer>> choices = List.of(choices(face, 0), choices(face, 1));
+    List<List<Integer>> choices = List.of(choices(face, 0), choices(face, 1), choices(face, 2));
     for (int run = 0; run < RUNS; run++) {
       if (!sameRun(run, face, model, choices)) {
         return;
       }
+    }
+  }
+
+  /** A run that never meets a case compares nothing of it. */
+  private static void meetEverything() {
+    for (Method method : Answers.methodsOf(Smartcrate.class)) {
+      meet(method.getName());
+      for (Class<?> type : method.getExceptionTypes()) {
+        // 999 plays are more than the calls of a run: TrackTests asks for them.
+        if (!(method.getName().equals("play") && type == IllegalStateException.class)) {
+          meet(method.getName() + " throws." + type.getName());
+        }
+      }
+    }
+  }
+
+  private static void meet(String answer) {
+    if (!MET.contains(answer)) {
+      Check.fail("no run meets " + answer);
     }
   }
 
@@ -120,8 +149,9 @@ final class ModelTests {
     int building = 100 + random.nextInt(150);
     // Some runs ask for what is out of range more often than others.
     int wild = 5 + random.nextInt(60);
+    int behind = run % 8 == 7 ? 2 : 1;
     for (int call = 0; call < CALLS; call++) {
-      List<Integer> from = choices.get(call < building ? 0 : 1);
+      List<Integer> from = choices.get(call < building ? 0 : behind);
       int chosen = from.get(random.nextInt(from.size()));
       String kinds = ARGUMENTS.get(face.get(chosen).getName());
       int[] arguments = new int[kinds.length()];
@@ -130,6 +160,7 @@ final class ModelTests {
       }
       String got = Answers.to(crate, face.get(chosen), arguments);
       String due = Answers.to(plain, model.get(chosen), arguments);
+      MET.add(face.get(chosen).getName() + (due.startsWith("throws.") ? " " + due : ""));
       if (!got.equals(due)) {
         Check.fail("run " + run + ", call " + call + ", " + face.get(chosen).getName()
             + java.util.Arrays.toString(arguments) + " answered " + got + ", due is " + due);
